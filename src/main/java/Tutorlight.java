@@ -783,10 +783,12 @@ public final class Tutorlight {
                 right.applyRule(rule, false);
                 broken.become(here);
                 broken.applyRule(rule, true);
+                // A rule that changes nothing only makes a shorter row longer.
+                if (!right.isSameAs(here)) {
+                    seek(explainer, right, length + 1, brokenSet);
+                }
                 // Where both do the same, the rule does not count as broken.
-                boolean isBroken = !broken.isSameAs(right);
-                seek(explainer, right, length + 1, brokenSet);
-                if (isBroken) {
+                if (!broken.isSameAs(right)) {
                     seek(explainer, broken, length + 1, brokenSet | 1 << rule);
                 }
             }

@@ -13,6 +13,7 @@ public final class DaysTest {
         reviewAt();
         chooseReview();
         chooseNew();
+        fullHouse();
         Check.finish("DaysTest");
     }
 
@@ -185,5 +186,27 @@ public final class DaysTest {
         Check.same("16: told, but answered once", 2, () -> x.choose(0));
         x.addNeed(2, 0);
         Check.same("16: only open ones", 3, () -> x.choose(0));
+    }
+
+    private static void fullHouse() {
+        Tutorlight x = with(10, 4);
+        Check.same("16: the first of ten", 0, () -> x.choose(3));
+        for (int i = 9; i >= 0; i--) {
+            x.answer(3, i, i % 2 == 0);
+        }
+        Check.refuses("16: all ten are answered, none is due", NONE, () -> x.choose(3));
+        goOn(x, 10);
+        Check.same("14: all ten", 10, () -> x.reviews(3));
+        int[] order = {8, 9, 6, 7, 4, 5, 2, 3, 0, 1};
+        for (int i = 0; i < order.length; i++) {
+            int index = i;
+            Check.same("15: index " + i + " of ten", order[i], () -> x.reviewAt(3, index));
+        }
+        Check.refuses("15: index 10", NONE, () -> x.reviewAt(3, 10));
+        Check.same("16: the first review of ten", 8, () -> x.choose(3));
+        for (int i = 0; i < 3; i++) {
+            int other = i;
+            Check.same("14: the other learners", 0, () -> x.reviews(other));
+        }
     }
 }

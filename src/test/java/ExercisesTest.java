@@ -126,6 +126,10 @@ public final class ExercisesTest {
         Check.same("19: the learner has it then", "9999 9999 7499 -1", () -> equation(x));
         Check.same("19: the solution -4 and a bit", 'w', () -> x.step(0, 9999, 9999, 7499, -2));
         Check.same("19: the learner has the old one", "9999 9999 7499 -1", () -> equation(x));
+        Check.same("19: the least a and b", 'f', () -> x.step(0, -9999, -9999, -7499, 1));
+        Check.same("19: the least c", 'f', () -> x.step(0, -9998, 0, -9999, -4));
+        Check.same("19: the least d", 'f', () -> x.step(0, 1, -9995, 0, -9999));
+        Check.same("19: the greatest c and d", 'f', () -> x.step(0, 9998, 9995, 9999, 9999));
         Check.same("19: no solution", 'w', () -> x.step(0, 5, 1, 5, 2));
         Check.same("19: all solutions", 'w', () -> x.step(0, 5, 2, 5, 2));
         Check.same("19: all zero", 'w', () -> x.step(0, 0, 0, 0, 0));
@@ -226,6 +230,7 @@ public final class ExercisesTest {
         explains("b added, divided, two signs", 9, 0, -1, 0, 0, -8);
         explains("two signs, sides changed, c added", 10, 0, -2, -12, 0, 4);
         explains("b moved, d not divided", 16, 5, 1, 0, 0, -28);
+        explains("b and c must be 0 to divide", NONE, 5, 1, -4, 0, -32);
         explains("b added, -36 is not divided by 7", NONE, 5, 1, 0, 0, -36);
         explains("b added, d not divided", 17, 0, 1, 0, 0, -16);
         explains("b added, divided", 1, 0, 1, 0, 0, -8);

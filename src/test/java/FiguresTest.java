@@ -100,6 +100,9 @@ public final class FiguresTest {
         Check.same("26: other odds by the other way", false, () -> x.isSound());
         change(mastery, "odds", 200);
         Check.same("26: the same odds", true, () -> x.isSound());
+        change(masteryOf(x, 0, 0), "odds", 199);
+        Check.same("26: of the first learner and skill", false, () -> x.isSound());
+        change(masteryOf(x, 0, 0), "odds", 200);
         for (int skill = 0; skill < 3; skill++) {
             change(masteryOf(x, 1, skill), "dueDay", 1);
         }
@@ -110,6 +113,9 @@ public final class FiguresTest {
         Object exercise = valueOf(elementOf(x, "learners", 0), "exercise");
         change(valueOf(exercise, "equation"), "d", -14);
         Check.same("26: another solution", false, () -> x.isSound());
+        change(valueOf(exercise, "equation"), "b", 4);
+        Check.same("26: another solution by b", false, () -> x.isSound());
+        change(valueOf(exercise, "equation"), "b", -4);
         change(valueOf(exercise, "equation"), "d", -12);
         Check.same("26: the solution", true, () -> x.isSound());
     }
