@@ -17,17 +17,6 @@ public final class DaysTest {
         Check.finish("DaysTest");
     }
 
-    private static Tutorlight with(int skills, int learners) {
-        Tutorlight x = new Tutorlight();
-        for (int i = 0; i < skills; i++) {
-            x.addSkill(200, 100, 100);
-        }
-        for (int i = 0; i < learners; i++) {
-            x.addLearner();
-        }
-        return x;
-    }
-
     private static void goOn(Tutorlight x, int days) {
         for (int i = 0; i < days; i++) {
             x.nextDay();
@@ -35,7 +24,7 @@ public final class DaysTest {
     }
 
     private static void nextDay() {
-        Tutorlight x = with(1, 1);
+        Tutorlight x = Teachers.with(1, 1);
         for (int i = 1; i <= 200; i++) {
             int due = i;
             Check.same("12: the next day", due, () -> x.nextDay());
@@ -47,7 +36,7 @@ public final class DaysTest {
     }
 
     private static void due() {
-        Tutorlight x = with(2, 2);
+        Tutorlight x = Teachers.with(2, 2);
         Check.refuses("13: no learner", NO_INDEX, () -> x.due(2, 0));
         Check.refuses("13: no learner", NO_INDEX, () -> x.due(-1, 0));
         Check.refuses("13: no skill", NO_INDEX, () -> x.due(0, 2));
@@ -75,7 +64,7 @@ public final class DaysTest {
     }
 
     private static void dueWhereDaysAreFull() {
-        Tutorlight x = with(10, 2);
+        Tutorlight x = Teachers.with(10, 2);
         for (int i = 0; i < 10; i++) {
             int skill = i;
             x.answer(0, skill, i % 2 == 0);
@@ -97,7 +86,7 @@ public final class DaysTest {
     }
 
     private static void reviews() {
-        Tutorlight x = with(5, 2);
+        Tutorlight x = Teachers.with(5, 2);
         Check.refuses("14: no learner", NO_INDEX, () -> x.reviews(2));
         Check.refuses("14: no learner", NO_INDEX, () -> x.reviews(-1));
         Check.same("14: none", 0, () -> x.reviews(0));
@@ -117,7 +106,7 @@ public final class DaysTest {
     }
 
     private static void reviewAt() {
-        Tutorlight x = with(6, 2);
+        Tutorlight x = Teachers.with(6, 2);
         Check.refuses("15: no learner", NO_INDEX, () -> x.reviewAt(2, 0));
         Check.refuses("15: no learner", NO_INDEX, () -> x.reviewAt(-1, -1));
         Check.refuses("15: none", NONE, () -> x.reviewAt(0, 0));
@@ -144,7 +133,7 @@ public final class DaysTest {
     }
 
     private static void chooseReview() {
-        Tutorlight x = with(4, 1);
+        Tutorlight x = Teachers.with(4, 1);
         Check.refuses("16: no learner", NO_INDEX, () -> x.choose(1));
         Check.refuses("16: no learner", NO_INDEX, () -> x.choose(-1));
         x.answer(0, 3, true);
@@ -189,7 +178,7 @@ public final class DaysTest {
     }
 
     private static void fullHouse() {
-        Tutorlight x = with(10, 4);
+        Tutorlight x = Teachers.with(10, 4);
         Check.same("16: the first of ten", 0, () -> x.choose(3));
         for (int i = 9; i >= 0; i--) {
             x.answer(3, i, i % 2 == 0);

@@ -26,11 +26,7 @@ public final class ExercisesTest {
     }
 
     private static Tutorlight withExercise(int number) {
-        Tutorlight x = new Tutorlight();
-        x.addSkill(200, 100, 100);
-        x.addSkill(200, 100, 100);
-        x.addLearner();
-        x.addLearner();
+        Tutorlight x = Teachers.with(2, 2);
         x.make(0, 0, number);
         return x;
     }

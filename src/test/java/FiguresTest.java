@@ -15,28 +15,17 @@ public final class FiguresTest {
         Check.finish("FiguresTest");
     }
 
-    private static Tutorlight with(int skills, int learners) {
-        Tutorlight x = new Tutorlight();
-        for (int i = 0; i < skills; i++) {
-            x.addSkill(200, 100, 100);
-        }
-        for (int i = 0; i < learners; i++) {
-            x.addLearner();
-        }
-        return x;
-    }
-
     private static void checksum() {
         Check.same("23: nothing", 0L, () -> new Tutorlight().checksum());
-        Check.same("23: no learners", 0L, () -> with(3, 0).checksum());
-        Check.same("23: no skills", 0L, () -> with(0, 3).checksum());
-        Tutorlight x = with(2, 2);
+        Check.same("23: no learners", 0L, () -> Teachers.with(3, 0).checksum());
+        Check.same("23: no skills", 0L, () -> Teachers.with(0, 3).checksum());
+        Tutorlight x = Teachers.with(2, 2);
         x.setOdds(0, 0, 1);
         x.setOdds(0, 1, 2);
         x.setOdds(1, 0, 3);
         x.setOdds(1, 1, 4);
         Check.same("23: learners, then skills", ((31L + 2) * 31 + 3) * 31 + 4, () -> x.checksum());
-        Tutorlight full = with(10, 4);
+        Tutorlight full = Teachers.with(10, 4);
         long sum = 0;
         for (int i = 0; i < 40; i++) {
             full.setOdds(i / 10, i % 10, 960 + i);
@@ -47,9 +36,9 @@ public final class FiguresTest {
 
     private static void knownShare() {
         Check.refuses("24: nothing", NO_NUMBER, () -> new Tutorlight().knownShare());
-        Check.refuses("24: no learners", NO_NUMBER, () -> with(3, 0).knownShare());
-        Check.refuses("24: no skills", NO_NUMBER, () -> with(0, 3).knownShare());
-        Tutorlight x = with(3, 1);
+        Check.refuses("24: no learners", NO_NUMBER, () -> Teachers.with(3, 0).knownShare());
+        Check.refuses("24: no skills", NO_NUMBER, () -> Teachers.with(0, 3).knownShare());
+        Tutorlight x = Teachers.with(3, 1);
         Check.same("24: none is known", 0.0f, () -> x.knownShare());
         x.setOdds(0, 0, 699);
         Check.same("24: just not known", 0.0f, () -> x.knownShare());
@@ -64,9 +53,9 @@ public final class FiguresTest {
 
     private static void meanOdds() {
         Check.refuses("25: no skill", NO_INDEX, () -> new Tutorlight().meanOdds(0));
-        Check.refuses("25: no learners", NO_NUMBER, () -> with(1, 0).meanOdds(0));
-        Check.refuses("25: no such skill, no learners", NO_INDEX, () -> with(1, 0).meanOdds(1));
-        Tutorlight x = with(2, 3);
+        Check.refuses("25: no learners", NO_NUMBER, () -> Teachers.with(1, 0).meanOdds(0));
+        Check.refuses("25: no such skill, no learners", NO_INDEX, () -> Teachers.with(1, 0).meanOdds(1));
+        Tutorlight x = Teachers.with(2, 3);
         Check.refuses("25: below 0", NO_INDEX, () -> x.meanOdds(-1));
         Check.refuses("25: a skill too many", NO_INDEX, () -> x.meanOdds(2));
         x.setOdds(0, 1, 0);
@@ -78,7 +67,7 @@ public final class FiguresTest {
 
     private static void soundObjects() {
         Check.same("26: nothing", true, () -> new Tutorlight().isSound());
-        Tutorlight x = with(10, 4);
+        Tutorlight x = Teachers.with(10, 4);
         Check.same("26: no answers", true, () -> x.isSound());
         for (int i = 0; i < 120; i++) {
             x.answer(i % 4, i * 7 % 10, i % 3 != 0);
@@ -94,7 +83,7 @@ public final class FiguresTest {
 
     /** No call makes an object unsound: these reach inside it. */
     private static void unsoundObjects() throws Exception {
-        Tutorlight x = with(3, 2);
+        Tutorlight x = Teachers.with(3, 2);
         Object mastery = masteryOf(x, 1, 2);
         change(mastery, "odds", 201);
         Check.same("26: other odds by the other way", false, () -> x.isSound());

@@ -23,13 +23,7 @@ public final class RoomTest {
     }
 
     private static Tutorlight full() {
-        Tutorlight x = new Tutorlight();
-        for (int i = 0; i < 10; i++) {
-            x.addSkill(200, 100, 100);
-        }
-        for (int i = 0; i < 4; i++) {
-            x.addLearner();
-        }
+        Tutorlight x = Teachers.with(10, 4);
         x.make(3, 9, 147);
         x.step(3, 3, 0, 0, -10);
         return x;

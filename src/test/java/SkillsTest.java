@@ -19,17 +19,6 @@ public final class SkillsTest {
         Check.finish("SkillsTest");
     }
 
-    private static Tutorlight with(int skills, int learners) {
-        Tutorlight x = new Tutorlight();
-        for (int i = 0; i < skills; i++) {
-            x.addSkill(200, 100, 100);
-        }
-        for (int i = 0; i < learners; i++) {
-            x.addLearner();
-        }
-        return x;
-    }
-
     private static void newObject() {
         Tutorlight x = new Tutorlight();
         Check.refuses("1: no skill", NO_INDEX, () -> x.addNeed(0, 0));
@@ -59,7 +48,7 @@ public final class SkillsTest {
     }
 
     private static void addNeed() {
-        Tutorlight x = with(10, 1);
+        Tutorlight x = Teachers.with(10, 1);
         for (int wrong : new int[] {-1, 10, Integer.MIN_VALUE, Integer.MAX_VALUE}) {
             Check.refuses("3: skill " + wrong, NO_INDEX, () -> x.addNeed(wrong, 0));
             Check.refuses("3: needed " + wrong, NO_INDEX, () -> x.addNeed(0, wrong));
@@ -81,7 +70,7 @@ public final class SkillsTest {
     }
 
     private static void addLearner() {
-        Tutorlight x = with(1, 0);
+        Tutorlight x = Teachers.with(1, 0);
         Check.refuses("4: none yet", NO_INDEX, () -> x.odds(0, 0));
         for (int i = 0; i < 4; i++) {
             int due = i;
@@ -93,7 +82,7 @@ public final class SkillsTest {
     }
 
     private static void open() {
-        Tutorlight x = with(3, 2);
+        Tutorlight x = Teachers.with(3, 2);
         noLearnerOrSkill("5", 2, 3, (learner, skill) -> x.open(learner, skill));
         x.addNeed(1, 0);
         x.addNeed(2, 0);
@@ -110,7 +99,7 @@ public final class SkillsTest {
     }
 
     private static void isOpen() {
-        Tutorlight x = with(3, 1);
+        Tutorlight x = Teachers.with(3, 1);
         noLearnerOrSkill("6", 1, 3, (learner, skill) -> x.isOpen(learner, skill));
         Check.same("6: it needs none", true, () -> x.isOpen(0, 0));
         x.addNeed(0, 1);
@@ -124,7 +113,7 @@ public final class SkillsTest {
         Check.same("6: just known", true, () -> x.isOpen(0, 0));
         x.setOdds(0, 1, 0);
         Check.same("6: not known any more", false, () -> x.isOpen(0, 0));
-        Tutorlight y = with(3, 1);
+        Tutorlight y = Teachers.with(3, 1);
         y.addNeed(0, 1);
         y.addNeed(1, 2);
         y.setOdds(0, 1, 1000);
@@ -132,7 +121,7 @@ public final class SkillsTest {
     }
 
     private static void setOdds() {
-        Tutorlight x = with(2, 2);
+        Tutorlight x = Teachers.with(2, 2);
         noLearnerOrSkill("7", 2, 2, (learner, skill) -> x.setOdds(learner, skill, 1001));
         for (int wrong : new int[] {-1, 1001, Integer.MIN_VALUE, Integer.MAX_VALUE}) {
             Check.refuses("7: odds " + wrong, BAD, () -> x.setOdds(0, 0, wrong));
@@ -155,7 +144,7 @@ public final class SkillsTest {
     }
 
     private static void answer() {
-        Tutorlight x = with(0, 1);
+        Tutorlight x = Teachers.with(0, 1);
         x.addSkill(200, 100, 150);
         x.addSkill(0, 500, 500);
         x.addSkill(0, 0, 500);
@@ -190,7 +179,7 @@ public final class SkillsTest {
     }
 
     private static void oddsAnew() {
-        Tutorlight x = with(2, 2);
+        Tutorlight x = Teachers.with(2, 2);
         noLearnerOrSkill("9", 2, 2, (learner, skill) -> x.odds(learner, skill));
         noLearnerOrSkill("10", 2, 2, (learner, skill) -> x.oddsAnew(learner, skill));
         Check.same("9: at first", 200, () -> x.odds(0, 0));
@@ -208,7 +197,7 @@ public final class SkillsTest {
     }
 
     private static void answers() {
-        Tutorlight x = with(2, 2);
+        Tutorlight x = Teachers.with(2, 2);
         noLearnerOrSkill("11", 2, 2, (learner, skill) -> x.answers(learner, skill));
         Check.same("11: none", 0, () -> x.answers(0, 0));
         for (int i = 1; i <= 400; i++) {
