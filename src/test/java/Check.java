@@ -4,23 +4,37 @@ final class Check {
         Object run() throws Exception;
     }
 
+    private static String about = "";
     private static int count = 0;
     private static int wrong = 0;
 
     private Check() {
     }
 
-    static void same(String what, Object want, Call call) {
-        Object got;
+    /** Tells what the checks that come are about. */
+    static void about(String what) {
+        about = what;
+    }
+
+    static int count() {
+        return count;
+    }
+
+    /** What a call returns, or the class of the exception that it throws. */
+    static Object answerOf(Call call) {
         try {
-            got = call.run();
+            return call.run();
         } catch (Exception e) {
-            got = e.getClass();
+            return e.getClass();
         }
+    }
+
+    static void same(String what, Object want, Call call) {
+        Object got = answerOf(call);
         count++;
         if (!want.equals(got)) {
             wrong++;
-            System.out.println(what + " answered " + got + ", due is " + want);
+            System.out.println(about + what + " answered " + got + ", due is " + want);
         }
     }
 

@@ -17,12 +17,6 @@ public final class DaysTest {
         Check.finish("DaysTest");
     }
 
-    private static void goOn(Tutorlight x, int days) {
-        for (int i = 0; i < days; i++) {
-            x.nextDay();
-        }
-    }
-
     private static void nextDay() {
         Tutorlight x = Teachers.with(1, 1);
         for (int i = 1; i <= 200; i++) {
@@ -53,13 +47,13 @@ public final class DaysTest {
         Check.same("13: a wrong one", 1, () -> x.due(0, 0));
         x.answer(0, 0, true);
         Check.same("13: the row begins anew", 1, () -> x.due(0, 0));
-        goOn(x, 3);
+        Teachers.goOn(x, 3);
         x.answer(0, 0, true);
         Check.same("13: counted from this day", 5, () -> x.due(0, 0));
         Check.refuses("13: another learner", NONE, () -> x.due(1, 0));
         x.setOdds(0, 0, 0);
         Check.same("13: told, but answered once", 5, () -> x.due(0, 0));
-        goOn(x, 9);
+        Teachers.goOn(x, 9);
         Check.same("13: a review that is not done stays due", 5, () -> x.due(0, 0));
     }
 
@@ -78,7 +72,7 @@ public final class DaysTest {
         Check.same("13: a second right one, day 2 has one other", 2, () -> x.due(0, 2));
         x.answer(1, 0, true);
         Check.same("13: other learners do not count", 1, () -> x.due(1, 0));
-        goOn(x, 3);
+        Teachers.goOn(x, 3);
         x.answer(0, 3, true);
         Check.same("13: overdue ones do not fill the days", 6, () -> x.due(0, 3));
         x.answer(0, 3, false);
@@ -116,7 +110,7 @@ public final class DaysTest {
         x.answer(0, 1, true);
         x.answer(0, 0, true);
         Check.refuses("15: not yet", NONE, () -> x.reviewAt(0, 0));
-        goOn(x, 2);
+        Teachers.goOn(x, 2);
         int[] order = {3, 5, 1, 4};
         for (int i = 0; i < order.length; i++) {
             int index = i;
@@ -140,7 +134,7 @@ public final class DaysTest {
         x.answer(0, 2, true);
         x.answer(0, 1, true);
         Check.same("16: not yet due", 0, () -> x.choose(0));
-        goOn(x, 2);
+        Teachers.goOn(x, 2);
         Check.same("16: the lowest number of that day", 2, () -> x.choose(0));
         x.addNeed(2, 0);
         Check.same("16: whose skill is open", 3, () -> x.choose(0));
@@ -184,7 +178,7 @@ public final class DaysTest {
             x.answer(3, i, i % 2 == 0);
         }
         Check.refuses("16: all ten are answered, none is due", NONE, () -> x.choose(3));
-        goOn(x, 10);
+        Teachers.goOn(x, 10);
         Check.same("14: all ten", 10, () -> x.reviews(3));
         int[] order = {8, 9, 6, 7, 4, 5, 2, 3, 0, 1};
         for (int i = 0; i < order.length; i++) {

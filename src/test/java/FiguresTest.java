@@ -1,6 +1,3 @@
-import java.lang.reflect.Array;
-import java.lang.reflect.Field;
-
 /** Promises 23 to 26: figures. */
 public final class FiguresTest {
     private static final Class<? extends Exception> NO_INDEX = IndexOutOfBoundsException.class;
@@ -84,50 +81,25 @@ public final class FiguresTest {
     /** No call makes an object unsound: these reach inside it. */
     private static void unsoundObjects() throws Exception {
         Tutorlight x = Teachers.with(3, 2);
-        Object mastery = masteryOf(x, 1, 2);
-        change(mastery, "odds", 201);
+        Inside.setOdds(x, 1, 2, 201);
         Check.same("26: other odds by the other way", false, () -> x.isSound());
-        change(mastery, "odds", 200);
+        Inside.setOdds(x, 1, 2, 200);
         Check.same("26: the same odds", true, () -> x.isSound());
-        change(masteryOf(x, 0, 0), "odds", 199);
+        Inside.setOdds(x, 0, 0, 199);
         Check.same("26: of the first learner and skill", false, () -> x.isSound());
-        change(masteryOf(x, 0, 0), "odds", 200);
+        Inside.setOdds(x, 0, 0, 200);
         for (int skill = 0; skill < 3; skill++) {
-            change(masteryOf(x, 1, skill), "dueDay", 1);
+            Inside.setDueDay(x, 1, skill, 1);
         }
         Check.same("26: three on one day", false, () -> x.isSound());
         x.nextDay();
         Check.same("26: that day is not behind this one", true, () -> x.isSound());
         x.make(0, 0, 0);
-        Object exercise = valueOf(elementOf(x, "learners", 0), "exercise");
-        change(valueOf(exercise, "equation"), "d", -14);
+        Inside.setEquation(x, 0, 2, -4, 0, -14);
         Check.same("26: another solution", false, () -> x.isSound());
-        change(valueOf(exercise, "equation"), "b", 4);
+        Inside.setEquation(x, 0, 2, 4, 0, -12);
         Check.same("26: another solution by b", false, () -> x.isSound());
-        change(valueOf(exercise, "equation"), "b", -4);
-        change(valueOf(exercise, "equation"), "d", -12);
+        Inside.setEquation(x, 0, 2, -4, 0, -12);
         Check.same("26: the solution", true, () -> x.isSound());
-    }
-
-    private static Object masteryOf(Tutorlight x, int learner, int skill) throws Exception {
-        return elementOf(elementOf(x, "learners", learner), "masteries", skill);
-    }
-
-    private static Object elementOf(Object owner, String name, int index) throws Exception {
-        return Array.get(valueOf(owner, name), index);
-    }
-
-    private static Object valueOf(Object owner, String name) throws Exception {
-        return fieldOf(owner, name).get(owner);
-    }
-
-    private static void change(Object owner, String name, int value) throws Exception {
-        fieldOf(owner, name).setInt(owner, value);
-    }
-
-    private static Field fieldOf(Object owner, String name) throws Exception {
-        Field field = owner.getClass().getDeclaredField(name);
-        field.setAccessible(true);
-        return field;
     }
 }
