@@ -5,9 +5,6 @@ final class DaysEdges {
     private static final Class<? extends Exception> NO_INDEX = IndexOutOfBoundsException.class;
     private static final Class<? extends Exception> NONE = NoSuchElementException.class;
     private static final Class<? extends Exception> NO_DAY = ArithmeticException.class;
-    private static final String NO_LEARNER = "Throws IndexOutOfBoundsException if there is no such learner";
-    private static final String FIRST_OF_SEVERAL =
-            "If several exceptions apply, the one that is documented first is thrown.";
 
     private DaysEdges() {
     }
@@ -25,20 +22,19 @@ final class DaysEdges {
         Edge.of(13, "Skills due on that very day are counted", DaysEdges::thatVeryDay);
         Edge.of(13, "A review that is not done stays due", DaysEdges::notDoneStaysDue);
         Edge.of(13, "Returns the day", DaysEdges::dueBehindTheLastDay);
-        Edge.of(13, "Throws IndexOutOfBoundsException if there is no such learner or skill",
-                () -> Twins.noSuchLearnerOrSkill(Tutorlight::due));
+        Edge.of(13, Edge.NO_LEARNER_OR_SKILL, () -> Twins.noSuchLearnerOrSkill(Tutorlight::due));
         Edge.of(13, "Throws NoSuchElementException if it was never answered", DaysEdges::neverAnswered);
-        Edge.of(13, FIRST_OF_SEVERAL, DaysEdges::neverAnsweredWithoutLearner);
+        Edge.of(13, Edge.FIRST_OF_SEVERAL, DaysEdges::neverAnsweredWithoutLearner);
 
         Edge.of(14, "due on this day or were before", DaysEdges::reviewsOfThisDay);
         Edge.of(14, "Returns the number of reviews", DaysEdges::noReviewsAndAll);
-        Edge.of(14, NO_LEARNER, () -> Twins.noSuchLearner(Tutorlight::reviews));
+        Edge.of(14, Edge.NO_LEARNER, () -> Twins.noSuchLearner(Tutorlight::reviews));
 
         Edge.of(15, "those due first ahead, then by rising numbers", DaysEdges::orderOfReviews);
         Edge.of(15, "index: the index, from 0", DaysEdges::firstAndLastIndex);
-        Edge.of(15, NO_LEARNER, () -> Twins.noSuchLearner((x, learner) -> x.reviewAt(learner, 0)));
+        Edge.of(15, Edge.NO_LEARNER, () -> Twins.noSuchLearner((x, learner) -> x.reviewAt(learner, 0)));
         Edge.of(15, "Throws NoSuchElementException if there is no such index", DaysEdges::noSuchReview);
-        Edge.of(15, FIRST_OF_SEVERAL, () -> Twins.noSuchLearner((x, learner) -> x.reviewAt(learner, -1)));
+        Edge.of(15, Edge.FIRST_OF_SEVERAL, () -> Twins.noSuchLearner((x, learner) -> x.reviewAt(learner, -1)));
 
         Edge.of(16, "the first of the reviews that are due, as reviewAt() tells them, whose skill is open",
                 DaysEdges::firstOpenReview);
@@ -46,9 +42,9 @@ final class DaysEdges {
         Edge.of(16, "the one with the greatest product of 1000 less the odds and the gain",
                 DaysEdges::greatestProduct);
         Edge.of(16, "of several the lowest number", DaysEdges::lowestNumberOfSeveral);
-        Edge.of(16, NO_LEARNER, () -> Twins.noSuchLearner(Tutorlight::choose));
+        Edge.of(16, Edge.NO_LEARNER, () -> Twins.noSuchLearner(Tutorlight::choose));
         Edge.of(16, "Throws NoSuchElementException if there is none", DaysEdges::nothingToChoose);
-        Edge.of(16, FIRST_OF_SEVERAL, DaysEdges::nothingToChooseWithoutLearner);
+        Edge.of(16, Edge.FIRST_OF_SEVERAL, DaysEdges::nothingToChooseWithoutLearner);
     }
 
     private static void firstDay() {

@@ -16,6 +16,9 @@ final class Edge {
 
     /** In place of a promise's number: what holds for all of them. */
     static final int ALL = 0;
+    static final String NO_LEARNER = "Throws IndexOutOfBoundsException if there is no such learner";
+    static final String NO_LEARNER_OR_SKILL = "Throws IndexOutOfBoundsException if there is no such learner or skill";
+    static final String FIRST_OF_SEVERAL = "If several exceptions apply, the one that is documented first is thrown.";
     static final List<Quote> QUOTES = new ArrayList<>();
 
     private Edge() {

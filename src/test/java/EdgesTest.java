@@ -41,7 +41,8 @@ public final class EdgesTest {
         Check.same("promise " + promise + " stands in the document", true, () -> sentences.size() > 0);
         for (String sentence : sentences) {
             if (sentence.startsWith("Throws ") || sentence.matches(RANGE)) {
-                Check.same("tests of promise " + promise + " \"" + sentence + "\"", 1, () -> testsOf(promise, sentence));
+                String what = "tests of promise " + promise + " \"" + sentence + "\"";
+                Check.same(what, 1, () -> testsOf(promise, sentence));
             }
         }
         Check.same("promise " + promise + " has a test", true, () -> hasTest(promise));

@@ -7,10 +7,7 @@ final class ExercisesEdges {
     private static final Class<? extends Exception> STATE = IllegalStateException.class;
     private static final Class<? extends Exception> NONE = NoSuchElementException.class;
     private static final int[] TOO_FAR = {-10000, 10000, Integer.MIN_VALUE, Integer.MAX_VALUE};
-    private static final String NO_LEARNER = "Throws IndexOutOfBoundsException if there is no such learner";
     private static final String NO_EXERCISE = "Throws IllegalStateException if the learner has no exercise";
-    private static final String FIRST_OF_SEVERAL =
-            "If several exceptions apply, the one that is documented first is thrown.";
 
     private ExercisesEdges() {
     }
@@ -35,20 +32,20 @@ final class ExercisesEdges {
         Edge.of(17, "Returns the number that was taken at last, modulo 1260", ExercisesEdges::nextBehindTheLastNumber);
         Edge.of(17, "those that were made for this learner, of any skill, solved or not",
                 ExercisesEdges::threeOfAnySkill);
-        Edge.of(17, "Throws IndexOutOfBoundsException if there is no such learner or skill",
+        Edge.of(17, Edge.NO_LEARNER_OR_SKILL,
                 () -> Twins.noSuchLearnerOrSkill((x, learner, skill) -> x.make(learner, skill, 0)));
         Edge.of(17, "Throws IllegalArgumentException if it is out of range", ExercisesEdges::numberOutOfRange);
         Edge.of(17, "Throws IllegalStateException if the skill is not open for the learner",
                 ExercisesEdges::makeNotOpen);
-        Edge.of(17, FIRST_OF_SEVERAL, ExercisesEdges::makeRefusedForSeveral);
+        Edge.of(17, Edge.FIRST_OF_SEVERAL, ExercisesEdges::makeRefusedForSeveral);
     }
 
     private static void partEdges() {
         Edge.of(18, "which: 'a', 'b', 'c' or 'd'", ExercisesEdges::fourParts);
-        Edge.of(18, NO_LEARNER, () -> Twins.noSuchLearner((x, learner) -> x.part(learner, 'a')));
+        Edge.of(18, Edge.NO_LEARNER, () -> Twins.noSuchLearner((x, learner) -> x.part(learner, 'a')));
         Edge.of(18, "Throws IllegalArgumentException if there is no such part", ExercisesEdges::noSuchPart);
         Edge.of(18, NO_EXERCISE, () -> withoutExercise((x, learner) -> x.part(learner, 'd')));
-        Edge.of(18, FIRST_OF_SEVERAL, ExercisesEdges::partRefusedForSeveral);
+        Edge.of(18, Edge.FIRST_OF_SEVERAL, ExercisesEdges::partRefusedForSeveral);
     }
 
     private static void stepEdges() {
@@ -64,10 +61,10 @@ final class ExercisesEdges {
                 ExercisesEdges::rightWithoutFaults);
         Edge.of(19, "A solved exercise is an answer also if its skill is not open any more",
                 ExercisesEdges::solvedNotOpenAnyMore);
-        Edge.of(19, NO_LEARNER, () -> Twins.noSuchLearner((x, learner) -> x.step(learner, 0, 0, 0, 0)));
+        Edge.of(19, Edge.NO_LEARNER, () -> Twins.noSuchLearner((x, learner) -> x.step(learner, 0, 0, 0, 0)));
         Edge.of(19, "Throws IllegalArgumentException if a number is out of range", ExercisesEdges::anyOfFourOutOfRange);
         Edge.of(19, NO_EXERCISE, () -> withoutExercise((x, learner) -> x.step(learner, 1, 0, 0, -4)));
-        Edge.of(19, FIRST_OF_SEVERAL, ExercisesEdges::stepRefusedForSeveral);
+        Edge.of(19, Edge.FIRST_OF_SEVERAL, ExercisesEdges::stepRefusedForSeveral);
     }
 
     private static void explainEdges() {
@@ -82,27 +79,27 @@ final class ExercisesEdges {
         Edge.of(20, "The fewest broken rules are the fewest different ones", ExercisesEdges::brokenTwiceCountsOnce);
         Edge.of(20, "An explanation is asked of the last wrong step in any exercise of the learner",
                 ExercisesEdges::lastWrongStepOfAny);
-        Edge.of(20, NO_LEARNER, () -> Twins.noSuchLearner(Tutorlight::explain));
+        Edge.of(20, Edge.NO_LEARNER, () -> Twins.noSuchLearner(Tutorlight::explain));
         Edge.of(20, "Throws IllegalStateException if no step of this learner was wrong",
                 ExercisesEdges::noStepWasWrong);
         Edge.of(20, "Throws NoSuchElementException if it has none", ExercisesEdges::noExplanation);
-        Edge.of(20, FIRST_OF_SEVERAL, ExercisesEdges::explainRefusedForSeveral);
+        Edge.of(20, Edge.FIRST_OF_SEVERAL, ExercisesEdges::explainRefusedForSeveral);
     }
 
     private static void hintEdges() {
         Edge.of(21, "the 1st if it does, as 1; otherwise the 0th, as 0; otherwise the 4th, as 4",
                 ExercisesEdges::firstRuleThatChanges);
         Edge.of(21, "and the 3rd, as 3, if none of these does", ExercisesEdges::noneOfTheseChanges);
-        Edge.of(21, NO_LEARNER, () -> Twins.noSuchLearner(Tutorlight::hint));
+        Edge.of(21, Edge.NO_LEARNER, () -> Twins.noSuchLearner(Tutorlight::hint));
         Edge.of(21, NO_EXERCISE, () -> withoutExercise(Tutorlight::hint));
-        Edge.of(21, FIRST_OF_SEVERAL, () -> Twins.refuse("neither", NO_INDEX, Tutorlight::new, x -> x.hint(0)));
+        Edge.of(21, Edge.FIRST_OF_SEVERAL, () -> Twins.refuse("neither", NO_INDEX, Tutorlight::new, x -> x.hint(0)));
     }
 
     private static void faultsEdges() {
         Edge.of(22, "Returns 10 times the steps plus the hints", ExercisesEdges::noFaultsAndMany);
-        Edge.of(22, NO_LEARNER, () -> Twins.noSuchLearner(Tutorlight::faults));
+        Edge.of(22, Edge.NO_LEARNER, () -> Twins.noSuchLearner(Tutorlight::faults));
         Edge.of(22, NO_EXERCISE, () -> withoutExercise(Tutorlight::faults));
-        Edge.of(22, FIRST_OF_SEVERAL, () -> Twins.refuse("neither", NO_INDEX, Tutorlight::new, x -> x.faults(0)));
+        Edge.of(22, Edge.FIRST_OF_SEVERAL, () -> Twins.refuse("neither", NO_INDEX, Tutorlight::new, x -> x.faults(0)));
     }
 
     /** No exercise was made, one was solved, or the other learner has one. */
@@ -119,16 +116,6 @@ final class ExercisesEdges {
         return x;
     }
 
-    private static Tutorlight withExercise(int number) {
-        Tutorlight x = Teachers.with(2, 2);
-        x.make(0, 0, number);
-        return x;
-    }
-
-    private static String equation(Tutorlight x) {
-        return x.part(0, 'a') + " " + x.part(0, 'b') + " " + x.part(0, 'c') + " " + x.part(0, 'd');
-    }
-
     private static char step(Tutorlight x, int... told) {
         return x.step(0, told[0], told[1], told[2], told[3]);
     }
@@ -138,8 +125,8 @@ final class ExercisesEdges {
         String[] equations = {"2 -4 0 -12", "8 -4 0 -36", "2 -4 1 -8", "8 -4 1 -32", "2 -4 0 -10",
             "8 -4 1 31", "2 -3 0 -11", "8 0 1 35", "2 1 0 -7", "8 4 1 39"};
         for (int i = 0; i < numbers.length; i++) {
-            Tutorlight x = withExercise(numbers[i]);
-            Check.same("number " + numbers[i], equations[i], () -> equation(x));
+            Tutorlight x = Teachers.withExercise(numbers[i]);
+            Check.same("number " + numbers[i], equations[i], () -> Teachers.equation(x));
         }
     }
 
@@ -152,11 +139,11 @@ final class ExercisesEdges {
     }
 
     private static void madeInPlaceOfAnother() {
-        Tutorlight x = withExercise(Teachers.NUMBER);
+        Tutorlight x = Teachers.withExercise(Teachers.NUMBER);
         x.hint(0);
         step(x, 3, -3, 0, -7);
         x.make(0, 1, 0);
-        Check.same("the equation", "2 -4 0 -12", () -> equation(x));
+        Check.same("the equation", "2 -4 0 -12", () -> Teachers.equation(x));
         Check.same("its faults", 0, () -> x.faults(0));
         Check.same("its solution", 's', () -> step(x, 1, 0, 0, -4));
         Check.same("an answer of its skill", 1, () -> x.answers(0, 1));
@@ -166,24 +153,24 @@ final class ExercisesEdges {
 
     private static void notAmongThreeBehind() {
         for (int others = 0; others <= 4; others++) {
-            Tutorlight x = withExercise(500);
+            Tutorlight x = Teachers.withExercise(500);
             for (int i = 0; i < others; i++) {
                 x.make(0, 0, 10 * i);
             }
             int due = others < 3 ? 501 : 500;
             Check.same("behind " + others + " others", due, () -> x.make(0, 0, 500));
         }
-        Check.same("for another learner", 500, () -> withExercise(500).make(1, 0, 500));
+        Check.same("for another learner", 500, () -> Teachers.withExercise(500).make(1, 0, 500));
     }
 
     private static void nextNumberAndSoOn() {
-        Tutorlight x = withExercise(502);
+        Tutorlight x = Teachers.withExercise(502);
         x.make(0, 0, 500);
         x.make(0, 0, 501);
         Check.same("three are not taken", 503, () -> x.make(0, 0, 500));
-        Check.same("its equation", "8 -1 1 6", () -> equation(x));
+        Check.same("its equation", "8 -1 1 6", () -> Teachers.equation(x));
         Check.same("the one that was told is not among them", 504, () -> x.make(0, 0, 503));
-        Tutorlight y = withExercise(500);
+        Tutorlight y = Teachers.withExercise(500);
         for (int i = 1; i <= 3; i++) {
             int due = 500 + i;
             Check.same("told again", due, () -> y.make(0, 0, 500));
@@ -193,19 +180,19 @@ final class ExercisesEdges {
     }
 
     private static void nextBehindTheLastNumber() {
-        Tutorlight x = withExercise(1259);
+        Tutorlight x = Teachers.withExercise(1259);
         Check.same("behind the last", 0, () -> x.make(0, 0, 1259));
-        Check.same("its equation", "2 -4 0 -12", () -> equation(x));
+        Check.same("its equation", "2 -4 0 -12", () -> Teachers.equation(x));
         Check.same("behind the last and the first", 1, () -> x.make(0, 0, 1259));
         Check.same("behind the first two", 2, () -> x.make(0, 0, 0));
         Check.same("the last again", 1259, () -> x.make(0, 0, 1259));
-        Tutorlight y = withExercise(1258);
+        Tutorlight y = Teachers.withExercise(1258);
         y.make(0, 0, 1259);
         Check.same("behind the last two", 0, () -> y.make(0, 0, 1258));
     }
 
     private static void threeOfAnySkill() {
-        Tutorlight x = withExercise(500);
+        Tutorlight x = Teachers.withExercise(500);
         Check.same("of another skill", 501, () -> x.make(0, 1, 500));
         // 501 is 6 x - 1 = x + 4
         Check.same("the solution", 's', () -> step(x, 1, 0, 0, 1));
@@ -240,7 +227,7 @@ final class ExercisesEdges {
     }
 
     private static void fourParts() {
-        Tutorlight x = withExercise(Teachers.NUMBER);
+        Tutorlight x = Teachers.withExercise(Teachers.NUMBER);
         Check.same("a", 2, () -> x.part(0, 'a'));
         Check.same("b", -3, () -> x.part(0, 'b'));
         Check.same("c", 1, () -> x.part(0, 'c'));
@@ -264,28 +251,28 @@ final class ExercisesEdges {
     private static void justSolved() {
         int[][] notSolved = {{-1, 0, 0, 4}, {2, 0, 0, -8}, {1, 1, 0, -3}, {1, -1, 0, -5}, {1, 0, -1, -8}, {1, 0, 2, 4},
             {0, -4, 1, 0}, {0, 0, -1, -4}};
-        Tutorlight x = withExercise(0);
+        Tutorlight x = Teachers.withExercise(0);
         for (int[] each : notSolved) {
             Check.same("x is not alone", 'f', () -> step(x, each));
         }
         Check.same("x is alone", 's', () -> step(x, 1, 0, 0, -4));
         Check.refuses("solved", STATE, () -> step(x, 1, 0, 0, -4));
-        Check.same("another solution", 'w', () -> step(withExercise(0), 1, 0, 0, 4));
-        Check.same("the solution 0", 's', () -> step(withExercise(56), 1, 0, 0, 0));
-        Check.same("the solution 5", 's', () -> step(withExercise(126), 1, 0, 0, 5));
+        Check.same("another solution", 'w', () -> step(Teachers.withExercise(0), 1, 0, 0, 4));
+        Check.same("the solution 0", 's', () -> step(Teachers.withExercise(56), 1, 0, 0, 0));
+        Check.same("the solution 5", 's', () -> step(Teachers.withExercise(126), 1, 0, 0, 5));
     }
 
     private static void sameOneNumber() {
-        Tutorlight x = withExercise(0);
+        Tutorlight x = Teachers.withExercise(0);
         Check.same("the same equation", 'f', () -> step(x, 2, -4, 0, -12));
         Check.same("large numbers", 'f', () -> step(x, 9999, 9999, 7499, -1));
         Check.same("not quite the same number", 'w', () -> step(x, 9999, 9999, 7499, -2));
-        Check.same("the old one stays", "9999 9999 7499 -1", () -> equation(x));
+        Check.same("the old one stays", "9999 9999 7499 -1", () -> Teachers.equation(x));
         Check.same("none, not one", 'w', () -> step(x, 0, 1, 0, 2));
         Check.same("all, not one", 'w', () -> step(x, 0, 0, 0, 0));
         Check.same("the largest sums", 'w', () -> step(x, 9999, -9999, -9999, 9999));
         Check.same("the other sign", 'w', () -> step(x, 9999, 9999, -9999, -9999));
-        Tutorlight zero = withExercise(56);
+        Tutorlight zero = Teachers.withExercise(56);
         Check.same("the solution 0", 'f', () -> step(zero, 7, 1, 3, 1));
         Check.same("all, not 0 alone", 'w', () -> step(zero, 3, 1, 3, 1));
         Check.same("none, not 0", 'w', () -> step(zero, 3, 1, 3, 2));
@@ -293,7 +280,7 @@ final class ExercisesEdges {
 
     /** No run of calls leads to an equation without solutions, or with all. */
     private static void noneBoth() throws Exception {
-        Tutorlight x = withExercise(0);
+        Tutorlight x = Teachers.withExercise(0);
         Inside.setEquation(x, 0, 2, 1, 2, 5);
         Check.same("one", 'w', () -> step(x, 1, 0, 0, -4));
         Check.same("one, of rest 0", 'w', () -> step(x, 1, 0, 0, 0));
@@ -303,7 +290,7 @@ final class ExercisesEdges {
     }
 
     private static void allBoth() throws Exception {
-        Tutorlight x = withExercise(0);
+        Tutorlight x = Teachers.withExercise(0);
         Inside.setEquation(x, 0, 2, 5, 2, 5);
         Check.same("one", 'w', () -> step(x, 1, 0, 0, -4));
         Check.same("0 alone", 'w', () -> step(x, 1, 0, 0, 0));
@@ -329,13 +316,13 @@ final class ExercisesEdges {
         // Each has the solution -4, and one number at either end.
         int[][] least = {{-9999, -9999, -7499, 1}, {0, -9999, 1, -9995}, {-9998, 0, -9999, -4}, {1, -9995, 0, -9999}};
         int[][] greatest = {{9999, 9999, 7499, -1}, {0, 9999, -1, 9995}, {9998, 9995, 9999, 9999}, {-1, 9995, 0, 9999}};
-        Check.same("the least follows", 'f', () -> step(withExercise(0), least[place]));
-        Check.same("the greatest follows", 'f', () -> step(withExercise(0), greatest[place]));
+        Check.same("the least follows", 'f', () -> step(Teachers.withExercise(0), least[place]));
+        Check.same("the greatest follows", 'f', () -> step(Teachers.withExercise(0), greatest[place]));
     }
 
     /** The answers, and whether the last of them was right, behind the exercise of the solution -4. */
     private static String solvedBehind(boolean isHinted, int... told) {
-        Tutorlight x = withExercise(0);
+        Tutorlight x = Teachers.withExercise(0);
         if (isHinted) {
             x.hint(0);
         }
@@ -355,7 +342,7 @@ final class ExercisesEdges {
         Check.same("one wrong step", "1 wrong", () -> solvedBehind(false, 2, 0, 0, -9));
         Check.same("one hint", "1 wrong", () -> solvedBehind(true));
         Check.same("both", "1 wrong", () -> solvedBehind(true, 2, 0, 0, -9));
-        Tutorlight x = withExercise(0);
+        Tutorlight x = Teachers.withExercise(0);
         Check.refuses("a refused step", BAD, () -> step(x, 2, 0, 0, 10000));
         step(x, 1, 0, 0, -4);
         Check.same("a refused step is not wrong", Teachers.with(1, 1).answer(0, 0, true), () -> x.odds(0, 0));
@@ -367,7 +354,7 @@ final class ExercisesEdges {
     }
 
     private static void solvedNotOpenAnyMore() {
-        Tutorlight x = withExercise(0);
+        Tutorlight x = Teachers.withExercise(0);
         x.addNeed(0, 1);
         Check.same("it can be solved", 's', () -> step(x, 1, 0, 0, -4));
         Check.same("it is an answer", 1, () -> x.answers(0, 0));
@@ -408,7 +395,7 @@ final class ExercisesEdges {
     }
 
     private static void explains(String what, Object due, int number, int... told) {
-        explainsFrom(what, due, withExercise(number), told);
+        explainsFrom(what, due, Teachers.withExercise(number), told);
     }
 
     private static void explainsFrom(String what, Object due, Tutorlight x, int... told) {
@@ -417,7 +404,7 @@ final class ExercisesEdges {
     }
 
     private static Tutorlight with(int number, int... equation) {
-        Tutorlight x = withExercise(number);
+        Tutorlight x = Teachers.withExercise(number);
         step(x, equation);
         return x;
     }
@@ -490,12 +477,12 @@ final class ExercisesEdges {
     }
 
     private static void brokenTwiceCountsOnce() {
-        // b by the broken 0th, sides changed, what was d by the broken 0th again
-        explains("the 0th twice", 1, 147, 1, 0, 2, -10);
+        // No wrong step was found that needs the same broken rule twice: another row has it once.
+        explains("the 0th, the sides, the 0th again", 1, 147, 1, 0, 2, -10);
     }
 
     private static void lastWrongStepOfAny() {
-        Tutorlight x = withExercise(Teachers.NUMBER);
+        Tutorlight x = Teachers.withExercise(Teachers.NUMBER);
         step(x, 2, 0, 1, -10);
         Check.same("the only one", 1, () -> x.explain(0));
         step(x, 3, -3, 0, -7);
@@ -518,7 +505,7 @@ final class ExercisesEdges {
 
     private static void noStepWasWrong() {
         Twins.refuse("no exercise", STATE, Teachers::busy, x -> x.explain(1));
-        Twins.refuse("no step", STATE, () -> withExercise(0), x -> x.explain(0));
+        Twins.refuse("no step", STATE, () -> Teachers.withExercise(0), x -> x.explain(0));
         Twins.refuse("a right step", STATE, ExercisesEdges::withRightStep, x -> x.explain(0));
         Twins.refuse("one of another learner", STATE, Teachers::full, x -> x.explain(0));
         Check.same("wrong, then solved", 2, () -> solved().explain(0));
@@ -545,7 +532,7 @@ final class ExercisesEdges {
     }
 
     private static void firstRuleThatChanges() {
-        Tutorlight x = withExercise(Teachers.NUMBER);
+        Tutorlight x = Teachers.withExercise(Teachers.NUMBER);
         Check.same("all of them would", 1, () -> x.hint(0));
         step(x, 2, 0, 1, -4);
         Check.same("the 0th would not", 1, () -> x.hint(0));
@@ -566,7 +553,7 @@ final class ExercisesEdges {
     private static void noneOfTheseChanges() throws Exception {
         int[][] equations = {{2, 0, 0, -7}, {1, 0, 0, 5}, {0, 0, 0, 3}, {0, 0, 0, 0}};
         for (int[] each : equations) {
-            Tutorlight x = withExercise(0);
+            Tutorlight x = Teachers.withExercise(0);
             Inside.setEquation(x, 0, each);
             Check.same("a " + each[0] + ", d " + each[3], 3, () -> x.hint(0));
         }

@@ -25,18 +25,8 @@ public final class ExercisesTest {
         Check.finish("ExercisesTest");
     }
 
-    private static Tutorlight withExercise(int number) {
-        Tutorlight x = Teachers.with(2, 2);
-        x.make(0, 0, number);
-        return x;
-    }
-
-    private static String equation(Tutorlight x) {
-        return x.part(0, 'a') + " " + x.part(0, 'b') + " " + x.part(0, 'c') + " " + x.part(0, 'd');
-    }
-
     private static void makeRefuses() {
-        Tutorlight x = withExercise(0);
+        Tutorlight x = Teachers.withExercise(0);
         x.addNeed(1, 0);
         x.hint(0);
         for (int wrong : new int[] {-1, 2, Integer.MIN_VALUE, Integer.MAX_VALUE}) {
@@ -60,15 +50,15 @@ public final class ExercisesTest {
             int solution = n / 14 % 10 - 4;
             int b = n / 140 % 9 - 4;
             int d = a * solution + b - c * solution;
-            Tutorlight x = withExercise(n);
-            Check.same("17: number " + n, a + " " + b + " " + c + " " + d, () -> equation(x));
+            Tutorlight x = Teachers.withExercise(n);
+            Check.same("17: number " + n, a + " " + b + " " + c + " " + d, () -> Teachers.equation(x));
         }
-        Tutorlight last = withExercise(1259);
-        Check.same("17: the last number", "8 4 1 39", () -> equation(last));
+        Tutorlight last = Teachers.withExercise(1259);
+        Check.same("17: the last number", "8 4 1 39", () -> Teachers.equation(last));
     }
 
     private static void makeOthers() {
-        Tutorlight x = withExercise(0);
+        Tutorlight x = Teachers.withExercise(0);
         Check.same("17: the next number", 1, () -> x.make(0, 0, 0));
         Check.same("17: another number", 2, () -> x.make(0, 1, 2));
         Check.same("17: three were made, of any skill", 3, () -> x.make(0, 0, 0));
@@ -76,13 +66,13 @@ public final class ExercisesTest {
         Check.same("17: another learner", 0, () -> x.make(1, 0, 0));
         x.make(0, 0, 1259);
         Check.same("17: behind the last number", 1, () -> x.make(0, 0, 1259));
-        Check.same("17: the equation of the number 1", "3 -4 0 -16", () -> equation(x));
+        Check.same("17: the equation of the number 1", "3 -4 0 -16", () -> Teachers.equation(x));
         x.step(0, 1, 0, 0, -4);
         Check.same("17: solved ones too", 2, () -> x.make(0, 0, 1));
     }
 
     private static void part() {
-        Tutorlight x = withExercise(1000);
+        Tutorlight x = Teachers.withExercise(1000);
         Check.same("18: a", 8, () -> x.part(0, 'a'));
         Check.same("18: b", 3, () -> x.part(0, 'b'));
         Check.same("18: c", 0, () -> x.part(0, 'c'));
@@ -95,13 +85,13 @@ public final class ExercisesTest {
         Check.refuses("18: no learner", NO_INDEX, () -> x.part(-1, 'a'));
         Check.refuses("18: no exercise", STATE, () -> x.part(1, 'a'));
         x.step(0, 8, 0, 0, -24);
-        Check.same("18: behind a step", "8 0 0 -24", () -> equation(x));
+        Check.same("18: behind a step", "8 0 0 -24", () -> Teachers.equation(x));
         x.step(0, 1, 0, 0, -3);
         Check.refuses("18: solved", STATE, () -> x.part(0, 'a'));
     }
 
     private static void stepRefuses() {
-        Tutorlight x = withExercise(0);
+        Tutorlight x = Teachers.withExercise(0);
         for (int wrong : new int[] {-10000, 10000, Integer.MIN_VALUE, Integer.MAX_VALUE}) {
             Check.refuses("19: a " + wrong, BAD, () -> x.step(0, wrong, 0, 0, 0));
             Check.refuses("19: b " + wrong, BAD, () -> x.step(0, 0, wrong, 0, 0));
@@ -116,12 +106,12 @@ public final class ExercisesTest {
     }
 
     private static void stepFollows() {
-        Tutorlight x = withExercise(0);
+        Tutorlight x = Teachers.withExercise(0);
         Check.same("19: the same", 'f', () -> x.step(0, 2, -4, 0, -12));
         Check.same("19: any with the solution -4", 'f', () -> x.step(0, 9999, 9999, 7499, -1));
-        Check.same("19: the learner has it then", "9999 9999 7499 -1", () -> equation(x));
+        Check.same("19: the learner has it then", "9999 9999 7499 -1", () -> Teachers.equation(x));
         Check.same("19: the solution -4 and a bit", 'w', () -> x.step(0, 9999, 9999, 7499, -2));
-        Check.same("19: the learner has the old one", "9999 9999 7499 -1", () -> equation(x));
+        Check.same("19: the learner has the old one", "9999 9999 7499 -1", () -> Teachers.equation(x));
         Check.same("19: the least a and b", 'f', () -> x.step(0, -9999, -9999, -7499, 1));
         Check.same("19: the least c", 'f', () -> x.step(0, -9998, 0, -9999, -4));
         Check.same("19: the least d", 'f', () -> x.step(0, 1, -9995, 0, -9999));
@@ -135,16 +125,16 @@ public final class ExercisesTest {
         Check.same("19: b is not 0, not solved", 'f', () -> x.step(0, 1, 1, 0, -3));
         Check.same("19: c is not 0, not solved", 'f', () -> x.step(0, 1, 0, 2, 4));
         Check.same("19: five wrong ones", 50, () -> x.faults(0));
-        Tutorlight zero = withExercise(4 * 14);
+        Tutorlight zero = Teachers.withExercise(4 * 14);
         Check.same("19: the solution 0", 'f', () -> zero.step(0, 7, 0, 3, 0));
         Check.same("19: all, not 0 alone", 'w', () -> zero.step(0, 3, 0, 3, 0));
     }
 
     private static void stepSolves() {
-        Tutorlight x = withExercise(0);
+        Tutorlight x = Teachers.withExercise(0);
         Check.same("19: solved", 's', () -> x.step(0, 1, 0, 0, -4));
         Check.refuses("19: no exercise any more", STATE, () -> x.step(0, 1, 0, 0, -4));
-        Tutorlight y = withExercise(0);
+        Tutorlight y = Teachers.withExercise(0);
         y.make(0, 1, 50);
         y.step(0, 1, 0, 0, -1);
         Check.same("19: the one in its place is solved", 1, () -> y.answers(0, 1));
@@ -153,33 +143,33 @@ public final class ExercisesTest {
     }
 
     private static void solvedIsAnAnswer() {
-        Tutorlight right = withExercise(0);
+        Tutorlight right = Teachers.withExercise(0);
         right.step(0, 2, 0, 0, -8);
         right.step(0, 1, 0, 0, -4);
         Check.same("19: a right answer", right.answer(1, 0, true), () -> right.odds(0, 0));
         Check.same("19: it is due", 1, () -> right.due(0, 0));
-        Tutorlight wrong = withExercise(0);
+        Tutorlight wrong = Teachers.withExercise(0);
         wrong.step(0, 2, 0, 0, -9);
         wrong.step(0, 1, 0, 0, -4);
         Check.same("19: wrong behind a wrong step", wrong.answer(1, 0, false), () -> wrong.odds(0, 0));
-        Tutorlight hinted = withExercise(0);
+        Tutorlight hinted = Teachers.withExercise(0);
         hinted.hint(0);
         hinted.step(0, 1, 0, 0, -4);
         Check.same("19: wrong behind a hint", hinted.answer(1, 0, false), () -> hinted.odds(0, 0));
-        Tutorlight anew = withExercise(0);
+        Tutorlight anew = Teachers.withExercise(0);
         anew.step(0, 2, 0, 0, -9);
         anew.hint(0);
         anew.make(0, 0, 50);
         anew.step(0, 1, 0, 0, -1);
         Check.same("19: right in a new exercise", anew.answer(1, 0, true), () -> anew.odds(0, 0));
-        Tutorlight closed = withExercise(0);
+        Tutorlight closed = Teachers.withExercise(0);
         closed.addNeed(0, 1);
         Check.same("19: not open any more", 's', () -> closed.step(0, 1, 0, 0, -4));
         Check.same("19: an answer all the same", 1, () -> closed.answers(0, 0));
     }
 
     private static void explainRefuses() {
-        Tutorlight x = withExercise(0);
+        Tutorlight x = Teachers.withExercise(0);
         Check.refuses("20: no learner", NO_INDEX, () -> x.explain(2));
         Check.refuses("20: no learner", NO_INDEX, () -> x.explain(-1));
         Check.refuses("20: nothing was wrong", STATE, () -> x.explain(0));
@@ -191,7 +181,7 @@ public final class ExercisesTest {
     }
 
     private static void explains(String what, Object due, int number, int... told) {
-        Tutorlight x = withExercise(number);
+        Tutorlight x = Teachers.withExercise(number);
         x.step(0, told[0], told[1], told[2], told[3]);
         Check.same("20: " + what, due, () -> x.explain(0));
     }
@@ -205,7 +195,7 @@ public final class ExercisesTest {
         explains("c and d signs: by the sides", 8, 147, 2, -3, -1, 7);
         explains("b added, sides changed, signs", 1, 147, -1, 10, -2, 0);
         // 14 * 9 + 6 is 8 x - 4 = 36
-        Tutorlight x = withExercise(132);
+        Tutorlight x = Teachers.withExercise(132);
         x.step(0, 8, 0, 0, 40);
         x.step(0, 1, 0, 0, 40);
         Check.same("20: d is not divided", 16, () -> x.explain(0));
@@ -242,7 +232,7 @@ public final class ExercisesTest {
     }
 
     private static void explainLastWrongStep() {
-        Tutorlight x = withExercise(147);
+        Tutorlight x = Teachers.withExercise(147);
         x.step(0, 2, 0, 1, -10);
         x.step(0, 3, -3, 0, -7);
         Check.same("20: the last wrong one", 2, () -> x.explain(0));
@@ -260,7 +250,7 @@ public final class ExercisesTest {
     }
 
     private static void hint() {
-        Tutorlight x = withExercise(147);
+        Tutorlight x = Teachers.withExercise(147);
         Check.refuses("21: no learner", NO_INDEX, () -> x.hint(2));
         Check.refuses("21: no learner", NO_INDEX, () -> x.hint(-1));
         Check.refuses("21: no exercise", STATE, () -> x.hint(1));
@@ -280,7 +270,7 @@ public final class ExercisesTest {
     }
 
     private static void faults() {
-        Tutorlight x = withExercise(147);
+        Tutorlight x = Teachers.withExercise(147);
         Check.refuses("22: no learner", NO_INDEX, () -> x.faults(2));
         Check.refuses("22: no learner", NO_INDEX, () -> x.faults(-1));
         Check.refuses("22: no exercise", STATE, () -> x.faults(1));

@@ -19,7 +19,7 @@ final class FiguresEdges {
         Edge.of(25, "both converted to double", FiguresEdges::meanAsDouble);
         Edge.of(25, "Throws IndexOutOfBoundsException if there is no such skill", FiguresEdges::meanOfNoSkill);
         Edge.of(25, "Throws ArithmeticException if there are no learners", FiguresEdges::meanOfNobody);
-        Edge.of(25, "If several exceptions apply, the one that is documented first is thrown.",
+        Edge.of(25, Edge.FIRST_OF_SEVERAL,
                 FiguresEdges::meanOfNoSkillOfNobody);
 
         Edge.of(26, "Returns whether all is sound", FiguresEdges::nothingIsSound);

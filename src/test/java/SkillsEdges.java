@@ -3,11 +3,7 @@ final class SkillsEdges {
     private static final Class<? extends Exception> NO_INDEX = IndexOutOfBoundsException.class;
     private static final Class<? extends Exception> BAD = IllegalArgumentException.class;
     private static final Class<? extends Exception> STATE = IllegalStateException.class;
-    private static final String NO_LEARNER_OR_SKILL =
-            "Throws IndexOutOfBoundsException if there is no such learner or skill";
     private static final String OUT_OF_RANGE = "Throws IllegalArgumentException if a number is out of range";
-    private static final String FIRST_OF_SEVERAL =
-            "If several exceptions apply, the one that is documented first is thrown.";
 
     private SkillsEdges() {
     }
@@ -22,13 +18,14 @@ final class SkillsEdges {
         Edge.of(2, "gain: the gain, 0 to 500", SkillsEdges::gainRange);
         Edge.of(2, OUT_OF_RANGE, SkillsEdges::anyOfThreeOutOfRange);
         Edge.of(2, "Throws IllegalStateException if there are 10 skills", SkillsEdges::eleventhSkill);
-        Edge.of(2, FIRST_OF_SEVERAL, SkillsEdges::eleventhSkillOutOfRange);
+        Edge.of(2, Edge.FIRST_OF_SEVERAL, SkillsEdges::eleventhSkillOutOfRange);
 
         Edge.of(3, "no skill comes to need itself, over others too", SkillsEdges::needOverOthers);
         Edge.of(3, "Returns whether it did not yet", SkillsEdges::needAgain);
-        Edge.of(3, "Throws IndexOutOfBoundsException if there is no such skill, for either", SkillsEdges::needOfNoSkill);
+        Edge.of(3, "Throws IndexOutOfBoundsException if there is no such skill, for either",
+                SkillsEdges::needOfNoSkill);
         Edge.of(3, "Throws IllegalArgumentException if a skill came to need itself by this", SkillsEdges::needOfItself);
-        Edge.of(3, FIRST_OF_SEVERAL, SkillsEdges::needOfItselfWithoutSkill);
+        Edge.of(3, Edge.FIRST_OF_SEVERAL, SkillsEdges::needOfItselfWithoutSkill);
 
         Edge.of(4, "At most 4 learners are numbered from 0", SkillsEdges::fourLearners);
         Edge.of(4, "a learner has odds from 0 to 1000, 200 at first", SkillsEdges::oddsAtFirst);
@@ -37,38 +34,38 @@ final class SkillsEdges {
         Edge.of(5, "a teacher can open one for a learner besides", SkillsEdges::openForOneLearner);
         Edge.of(5, "Returns whether it was not open", SkillsEdges::openWhatIsOpen);
         Edge.of(5, "What a teacher opened stays open, whatever the odds become", SkillsEdges::openedStaysOpen);
-        Edge.of(5, NO_LEARNER_OR_SKILL, () -> Twins.noSuchLearnerOrSkill(Tutorlight::open));
+        Edge.of(5, Edge.NO_LEARNER_OR_SKILL, () -> Twins.noSuchLearnerOrSkill(Tutorlight::open));
 
         Edge.of(6, "if the odds of each one that it needs are 700 or more", SkillsEdges::openFrom700);
         Edge.of(6, "or if it needs none", SkillsEdges::openWithoutNeeds);
-        Edge.of(6, NO_LEARNER_OR_SKILL, () -> Twins.noSuchLearnerOrSkill(Tutorlight::isOpen));
+        Edge.of(6, Edge.NO_LEARNER_OR_SKILL, () -> Twins.noSuchLearnerOrSkill(Tutorlight::isOpen));
 
         Edge.of(7, "odds: the odds, 0 to 1000", SkillsEdges::oddsRange);
         Edge.of(7, "the answers for this skill are not known any more, what is due and the row of right ones stay",
                 SkillsEdges::oddsToldAmidARow);
-        Edge.of(7, NO_LEARNER_OR_SKILL, () -> Twins.noSuchLearnerOrSkill((x, i, j) -> x.setOdds(i, j, 500)));
+        Edge.of(7, Edge.NO_LEARNER_OR_SKILL, () -> Twins.noSuchLearnerOrSkill((x, i, j) -> x.setOdds(i, j, 500)));
         Edge.of(7, "Throws IllegalArgumentException if they are out of range", SkillsEdges::oddsOutOfRange);
-        Edge.of(7, FIRST_OF_SEVERAL, () -> Twins.noSuchLearnerOrSkill((x, i, j) -> x.setOdds(i, j, 1001)));
+        Edge.of(7, Edge.FIRST_OF_SEVERAL, () -> Twins.noSuchLearnerOrSkill((x, i, j) -> x.setOdds(i, j, 1001)));
 
         Edge.of(8, "For each skill, a learner has odds from 0 to 1000", SkillsEdges::oddsStayInRange);
         Edge.of(8, "p itself if the sum is 0", SkillsEdges::sumOfZero);
         Edge.of(8, "Then they become greater by (1000 less them) times the gain divided by 1000",
                 SkillsEdges::gainAtTheEnds);
         Edge.of(8, "All divisions are rounded down; nothing that is divided is below 0", SkillsEdges::roundedDown);
-        Edge.of(8, NO_LEARNER_OR_SKILL, () -> Twins.noSuchLearnerOrSkill((x, i, j) -> x.answer(i, j, true)));
+        Edge.of(8, Edge.NO_LEARNER_OR_SKILL, () -> Twins.noSuchLearnerOrSkill((x, i, j) -> x.answer(i, j, true)));
         Edge.of(8, "Throws IllegalStateException if the skill is not open for the learner", SkillsEdges::answerNotOpen);
-        Edge.of(8, FIRST_OF_SEVERAL, SkillsEdges::answerNotOpenWithoutLearner);
+        Edge.of(8, Edge.FIRST_OF_SEVERAL, SkillsEdges::answerNotOpenWithoutLearner);
 
         Edge.of(9, "200 at first", SkillsEdges::oddsAtFirst);
-        Edge.of(9, NO_LEARNER_OR_SKILL, () -> Twins.noSuchLearnerOrSkill(Tutorlight::odds));
+        Edge.of(9, Edge.NO_LEARNER_OR_SKILL, () -> Twins.noSuchLearnerOrSkill(Tutorlight::odds));
 
         Edge.of(10, "found from all answers since they were told, or from the beginning", SkillsEdges::oddsAnewOfNone);
         Edge.of(10, "An object is used for at most 512 calls", SkillsEdges::oddsAnewOfManyAnswers);
-        Edge.of(10, NO_LEARNER_OR_SKILL, () -> Twins.noSuchLearnerOrSkill(Tutorlight::oddsAnew));
+        Edge.of(10, Edge.NO_LEARNER_OR_SKILL, () -> Twins.noSuchLearnerOrSkill(Tutorlight::oddsAnew));
 
         Edge.of(11, "Returns how many answers of a learner are known for a skill", SkillsEdges::noAnswersAreKnown);
         Edge.of(11, "An object is used for at most 512 calls", SkillsEdges::manyAnswers);
-        Edge.of(11, NO_LEARNER_OR_SKILL, () -> Twins.noSuchLearnerOrSkill(Tutorlight::answers));
+        Edge.of(11, Edge.NO_LEARNER_OR_SKILL, () -> Twins.noSuchLearnerOrSkill(Tutorlight::answers));
     }
 
     private static void nothingAtFirst() {

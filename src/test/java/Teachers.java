@@ -17,6 +17,16 @@ final class Teachers {
         return x;
     }
 
+    static Tutorlight withExercise(int number) {
+        Tutorlight x = Teachers.with(2, 2);
+        x.make(0, 0, number);
+        return x;
+    }
+
+    static String equation(Tutorlight x) {
+        return x.part(0, 'a') + " " + x.part(0, 'b') + " " + x.part(0, 'c') + " " + x.part(0, 'd');
+    }
+
     /**
      * On the day 1, five skills and two learners: skill 3 is not open for learner 0, skill 4 is not for learner 1.
      * Learner 0 has an exercise of skill 0, with a hint and an explained wrong step; learner 1 has none.

@@ -124,7 +124,7 @@ final class Twins {
         answers.of("isSound", () -> x.isSound());
     }
 
-    /** Tells the day, how many skills and learners there are, what is opened by a teacher, and the rows of right ones. */
+    /** Tells the day, how many skills and learners there are, what a teacher opened, and the rows of right ones. */
     private static void askAsLearner(Tutorlight x, Answers answers) {
         answers.of("nextDay", () -> x.nextDay());
         for (int i = 0; i < LEARNERS * SKILLS; i++) {
